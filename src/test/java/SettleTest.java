@@ -32,18 +32,19 @@ public final class SettleTest {
 
     private static void replacesAllThatStand() {
         ToldFacts facts = Check.withDesks(1);
-        for (int c = 0; c < 70; c++) {
-            facts.tell(0, 1, 1, 1, c % 3);
+        int told = 110;
+        for (int c = 0; c < told; c++) {
+            facts.tell(0, 1, 1, 0, c % 3);
         }
-        Check.due("settle with the 6th", facts.settle(0, 1, 1, 5), 8 * 70);
+        Check.due("settle with the 6th", facts.settle(0, 1, 1, 5), 8 * told);
         Check.due("no conflict", facts.conflict(0, 0, 3), Check.NONE);
-        for (int c = 0; c < 70; c++) {
+        for (int c = 0; c < told; c++) {
             Check.due("none of them stands", facts.correct(0, 8 * c, 9), Check.NONE);
         }
-        Check.due("counts", facts.counts(0), 71);
-        Check.due("known", facts.known(0, 1, 1, 1, 71), 2);
-        Check.due("only the new one stands", facts.correct(0, 8 * 70, 9), 8 * 71);
-        Check.due("and is corrected", facts.known(0, 1, 1, 1, 72), 9);
+        Check.due("counts", facts.counts(0), told + 1);
+        Check.due("known", facts.known(0, 1, 1, 0, told + 1), 2);
+        Check.due("only the new one stands", facts.correct(0, 8 * told, 9), 8 * told + 8);
+        Check.due("and is corrected", facts.known(0, 1, 1, 0, told + 2), 9);
     }
 
     private static void whichIsByNumbers() {
