@@ -246,11 +246,17 @@ public final class ToldFacts {
         private final long[] words = new long[WORDS];
 
         private boolean has(int fact) {
-            return (words[fact / 64] & (1L << (fact % 64))) != 0L;
+            return isPlace(fact) && (words[fact / 64] & (1L << (fact % 64))) != 0L;
         }
 
         private void add(int fact) {
-            words[fact / 64] |= 1L << (fact % 64);
+            if (isPlace(fact)) {
+                words[fact / 64] |= 1L << (fact % 64);
+            }
+        }
+
+        private static boolean isPlace(int fact) {
+            return fact >= 0 && fact < MOST_FACTS;
         }
 
         private void addAll(FactSet other) {

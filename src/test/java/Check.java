@@ -26,6 +26,11 @@ final class Check {
         }
     }
 
+    /** A call whose answer is any number that is not negative: it was taken. */
+    static void taken(String call, long got) {
+        due(call + " is taken", got >= 0, true);
+    }
+
     static int wrongSoFar() {
         return wrong;
     }
@@ -43,6 +48,24 @@ final class Check {
         for (int c = 0; c < many; c++) {
             facts.tell(desk, 99, 9, 1000 + c, 7);
         }
+    }
+
+    /** The least time, up to 511, at which something is known of a spot that had one fact; -1 when none is. */
+    static int timeOf(ToldFacts facts, int desk, int thing, int kind, long day) {
+        int below = -1;
+        int from = 511;
+        if (facts.known(desk, thing, kind, day, from) == NOTHING) {
+            return -1;
+        }
+        while (from - below > 1) {
+            int middle = (from + below) / 2;
+            if (facts.known(desk, thing, kind, day, middle) == NOTHING) {
+                below = middle;
+            } else {
+                from = middle;
+            }
+        }
+        return from;
     }
 
     static void end(String test) {

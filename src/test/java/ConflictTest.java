@@ -7,11 +7,16 @@ public final class ConflictTest {
         sameValuesAreNoConflict();
         wrongInputs();
         manyStand();
+        spotNumberFromZero();
+        whatFromZero();
+        noConflicts();
+        changesNothing();
         Check.end("ConflictTest");
     }
 
     private static void orderOfSpots() {
-        int[][] spots = {{0, 0, 0}, {0, 0, 100_000}, {0, 1, 5}, {0, 9, 100_000}, {1, 0, 0}, {2, 3, 4}, {99, 9, 100_000}};
+        int[][] spots = {
+            {0, 0, 0}, {0, 0, 100_000}, {0, 1, 5}, {0, 9, 100_000}, {1, 0, 0}, {2, 3, 4}, {99, 9, 100_000}};
         int[] told = {3, 6, 0, 5, 2, 4, 1};
         ToldFacts facts = Check.withDesks(1);
         for (int v = 0; v < 2; v++) {
@@ -108,5 +113,69 @@ public final class ConflictTest {
         Check.due("150 spots, the last", other.conflict(0, 149, 2), 149);
         Check.due("its facts", other.conflict(0, 149, 5), 8);
         Check.due("no more spots", other.conflict(0, 150, 2), Check.NONE);
+    }
+
+    /** The first that is not, the first, the last, the first that is no more; for 1, 2 and 3 spots. */
+    private static void spotNumberFromZero() {
+        ToldFacts facts = Check.withDesks(1);
+        for (int spots = 0; spots <= 3; spots++) {
+            for (int k = 0; k < spots; k++) {
+                Check.due("spot " + k + " of " + spots, facts.conflict(0, k, 2), k);
+            }
+            int[] none = {
+                Integer.MIN_VALUE, Integer.MIN_VALUE + 1, -2, -1, spots, spots + 1, 150, 300, Integer.MAX_VALUE};
+            for (int k : none) {
+                for (int what = 0; what < 6; what++) {
+                    Check.due("no spot " + k + " of " + spots, facts.conflict(0, k, what), Check.NONE);
+                }
+            }
+            facts.tell(0, 1, 1, spots, 1);
+            facts.tell(0, 1, 1, spots, 2);
+        }
+    }
+
+    private static void whatFromZero() {
+        ToldFacts facts = Check.withDesks(2);
+        facts.tell(1, 7, 8, 9, 1);
+        facts.tell(0, 7, 8, 9, 2);
+        facts.tell(1, 7, 8, 9, 3);
+        facts.join(0, 1);
+        int[] row = {7, 8, 9, 3, 0, 1, 9};
+        for (int what = 0; what < row.length; what++) {
+            Check.due("what = " + what, facts.conflict(0, 0, what), row[what]);
+        }
+        int[] none = {
+            Integer.MIN_VALUE, Integer.MIN_VALUE + 3, Integer.MIN_VALUE + 4, Integer.MIN_VALUE + 5, -4, -3, -2, -1,
+            7, 8, 303, 304, Integer.MAX_VALUE - 1, Integer.MAX_VALUE};
+        for (int what : none) {
+            Check.due("what = " + what, facts.conflict(0, 0, what), Check.NONE);
+        }
+    }
+
+    private static void noConflicts() {
+        ToldFacts facts = Check.withDesks(8);
+        int[] desks = {Integer.MIN_VALUE, -1, 0, 7, 8, Integer.MAX_VALUE};
+        for (int desk : desks) {
+            for (int what = -1; what < 6; what++) {
+                Check.due("nothing was told", facts.conflict(desk, 0, what), Check.NONE);
+            }
+        }
+        facts.tell(7, 0, 0, 0, 1);
+        Check.due("one fact", facts.conflict(7, 0, 3), Check.NONE);
+        facts.tell(7, 0, 0, 0, 1);
+        Check.due("two that say the same", facts.conflict(7, 0, 3), Check.NONE);
+        facts.tell(7, 0, 0, 0, Long.MIN_VALUE);
+        Check.due("a third that does not", facts.conflict(7, 0, 3), 3);
+        Check.due("at desk 8", facts.conflict(8, 0, 3), Check.NONE);
+        Check.due("settle", facts.settle(7, 0, 0, 2), 31);
+        Check.due("no more", facts.conflict(7, 0, 3), Check.NONE);
+    }
+
+    private static void changesNothing() {
+        Twins.noEffect("conflict", Twins::few, 16, x -> x.conflict(0, 0, 5));
+        Twins.noEffect("conflict, no spot", Twins::few, Check.NONE, x -> x.conflict(0, 1, 0));
+        Twins.noEffect("conflict, no such fact", Twins::few, Check.NONE, x -> x.conflict(0, 0, 6));
+        Twins.noEffect("conflict at no desk", Twins::few, Check.NONE, x -> x.conflict(3, 0, 0));
+        Twins.noEffect("conflict when full", Twins::full, Check.NONE, x -> x.conflict(0, 300, 3));
     }
 }

@@ -7,6 +7,12 @@ public final class CorrectTest {
         sameValueIsTaken();
         inABatch();
         full();
+        ofAllThatItKnows();
+        whatItDoesNotKnow();
+        whatDoesNotStand();
+        firstAndLastFact();
+        refusedChangesNothing();
+        fullChangesNothing();
         Check.end("CorrectTest");
     }
 
@@ -96,5 +102,86 @@ public final class CorrectTest {
         Check.due("full: no desk comes before it", facts.correct(1, 8, 20), Check.NONE);
         Check.due("the one still stands", facts.known(0, 1, 1, 2, 999), 10);
         Check.due("counts", facts.counts(0), 300);
+    }
+
+    /** One that stands at one desk is replaced at another, until the two are joined. */
+    private static void ofAllThatItKnows() {
+        ToldFacts facts = Check.withDesks(3);
+        facts.tell(0, 1, 1, 1, 10);
+        facts.join(1, 0);
+        facts.join(2, 0);
+        Check.due("at desk 1", facts.correct(1, 0, 20), 1);
+        Check.due("at desk 2 it stands", facts.correct(2, 0, 30), 2);
+        facts.join(0, 1);
+        Check.due("at desk 0 it stood until the join", facts.correct(0, 0, 40), Check.NONE);
+        Check.due("what came by joining stands", facts.correct(0, 1, 40), 8);
+        Check.due("once", facts.correct(0, 1, 50), Check.NONE);
+        Check.due("at desk 1 it still stands", facts.correct(1, 1, 60), 9);
+    }
+
+    private static void whatItDoesNotKnow() {
+        ToldFacts facts = Check.withDesks(2);
+        Check.due("when nothing was told", facts.correct(0, 0, 1), Check.NONE);
+        facts.tell(1, 1, 1, 1, 10);
+        Check.due("told at another desk", facts.correct(0, 1, 1), Check.NONE);
+        Check.due("known there", facts.correct(1, 1, 11), 9);
+        facts.batch(1);
+        facts.tell(1, 1, 1, 1, 12);
+        Check.due("in an open batch", facts.correct(1, 17, 1), Check.NONE);
+        facts.endBatch(0);
+        Check.due("in an ended one", facts.correct(1, 17, 13), 25);
+        int[] none = {Integer.MIN_VALUE, -8, -7, -2, -1, 0, 2, 33, 2399, 2400, Integer.MAX_VALUE};
+        for (int fact : none) {
+            Check.due("never told: " + fact, facts.correct(1, fact, 1), Check.NONE);
+        }
+        Check.due("counts(0)", facts.counts(0), 0);
+        Check.due("counts(1)", facts.counts(1), 4);
+    }
+
+    private static void whatDoesNotStand() {
+        ToldFacts facts = Check.withDesks(1);
+        facts.tell(0, 1, 1, 1, 10);
+        facts.correct(0, 0, 11);
+        Check.due("corrected", facts.correct(0, 0, 12), Check.NONE);
+        facts.tell(0, 1, 1, 1, 13);
+        Check.due("settled", facts.settle(0, 1, 1, 0), 24);
+        Check.due("one of the settled", facts.correct(0, 8, 14), Check.NONE);
+        Check.due("the other", facts.correct(0, 16, 14), Check.NONE);
+        Check.due("the one that replaced them stands", facts.correct(0, 24, 15), 32);
+        Check.due("and now does not", facts.correct(0, 24, 16), Check.NONE);
+        Check.due("counts", facts.counts(0), 5);
+    }
+
+    /** The least number and the greatest that a fact may have. */
+    private static void firstAndLastFact() {
+        ToldFacts facts = Check.withDesks(8);
+        facts.tell(7, 1, 1, 1, 1);
+        Check.due("the first of desk 7", facts.correct(7, 7, 2), 15);
+        Check.due("there is no 0", facts.correct(7, 0, 2), Check.NONE);
+        for (int c = 2; c < 300; c++) {
+            Check.due("correct", facts.correct(7, 8 * c - 1, c), 8 * c + 7);
+        }
+        Check.due("the 300th is 2,399", facts.find(7, 1, 299, 0), 2399);
+        Check.due("it stands, but all is full", facts.correct(7, 2399, 1), Check.FULL);
+        Check.due("the one before it does not stand", facts.correct(7, 2391, 1), Check.NONE);
+        Check.due("there is no 2,400", facts.correct(7, 2400, 1), Check.NONE);
+    }
+
+    private static void refusedChangesNothing() {
+        for (int desk : new int[] {Integer.MIN_VALUE, -1, 3, 8, Integer.MAX_VALUE}) {
+            Twins.noEffect("correct at desk " + desk, Twins::few, Check.NONE, x -> x.correct(desk, 8, 1));
+        }
+        for (int fact : new int[] {Integer.MIN_VALUE, -8, -1, 2, 9, 24, 2399, 2400, Integer.MAX_VALUE}) {
+            Twins.noEffect("correct of unknown " + fact, Twins::few, Check.NONE, x -> x.correct(0, fact, 1));
+        }
+        Twins.noEffect("correct of one that does not stand", Twins::few, Check.NONE, x -> x.correct(0, 0, 1));
+        Twins.noEffect("correct of one in the open batch", Twins::few, Check.NONE, x -> x.correct(1, 9, 1));
+    }
+
+    private static void fullChangesNothing() {
+        Twins.noEffect("correct when full", Twins::full, Check.FULL, x -> x.correct(0, 8, 1));
+        Twins.noEffect("correct in a batch when full", Twins::full, Check.FULL, x -> x.correct(1, 1, 1));
+        Twins.noEffect("correct of one replaced when full", Twins::full, Check.NONE, x -> x.correct(0, 0, 1));
+        Twins.noEffect("correct of one unknown when full", Twins::full, Check.NONE, x -> x.correct(0, 2400, 1));
     }
 }

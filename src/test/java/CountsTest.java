@@ -1,6 +1,14 @@
-/** Promise 14: how many facts a desk knows. */
+/** Promise 14: how many facts a desk knows; NONE when there is no such desk. */
 public final class CountsTest {
     public static void main(String[] args) {
+        whatCounts();
+        noneWhenThereIsNoSuchDesk();
+        emptyAndFull();
+        changesNothing();
+        Check.end("CountsTest");
+    }
+
+    private static void whatCounts() {
         ToldFacts facts = Check.withDesks(8);
         for (int c = 0; c < 100; c++) {
             Check.due("counts(7)", facts.counts(7), c);
@@ -20,14 +28,36 @@ public final class CountsTest {
         facts.join(7, 0);
         facts.join(0, 7);
         Check.due("none counts twice", facts.counts(0), 103);
-        Check.fill(facts, 7, 197);
-        Check.due("all", facts.counts(7), 300);
+    }
+
+    private static void noneWhenThereIsNoSuchDesk() {
+        ToldFacts facts = new ToldFacts();
+        for (int desks = 0; desks <= 8; desks++) {
+            int[] none = {Integer.MIN_VALUE, Integer.MIN_VALUE + 1, -8, -2, -1, desks, 8, 9, Integer.MAX_VALUE};
+            for (int desk : none) {
+                Check.due("counts(" + desk + ") of " + desks, facts.counts(desk), Check.NONE);
+            }
+            for (int desk = 0; desk < desks; desk++) {
+                Check.due("counts(" + desk + ") of " + desks, facts.counts(desk), 0);
+            }
+            facts.desk();
+        }
+    }
+
+    private static void emptyAndFull() {
+        ToldFacts facts = Check.withDesks(8);
+        Check.due("empty", facts.counts(7), 0);
+        Check.fill(facts, 7, 299);
+        Check.due("299", facts.counts(7), 299);
+        Check.due("the 300th", facts.tell(7, 1, 1, 1, 1), 2399);
+        Check.due("300", facts.counts(7), 300);
         Check.due("full", facts.tell(7, 1, 1, 1, 1), Check.FULL);
         Check.due("no more", facts.counts(7), 300);
-        int[] wrong = {-1, 8, 9, Integer.MIN_VALUE, Integer.MAX_VALUE};
-        for (int desk : wrong) {
-            Check.due("no desk " + desk, facts.counts(desk), Check.NONE);
-        }
-        Check.end("CountsTest");
+        Check.due("another desk", facts.counts(0), 0);
+    }
+
+    private static void changesNothing() {
+        Twins.noEffect("counts", Twins::few, 4, x -> x.counts(0));
+        Twins.noEffect("counts of none", Twins::few, Check.NONE, x -> x.counts(3));
     }
 }

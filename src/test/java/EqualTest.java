@@ -6,6 +6,9 @@ public final class EqualTest {
         differsByTheLastFact();
         openBatchesDoNotCount();
         noSuchDesk();
+        falseWhenOneIsNone();
+        emptyAndFull();
+        changesNothing();
         Check.end("EqualTest");
     }
 
@@ -65,5 +68,40 @@ public final class EqualTest {
             Check.due("one none with itself", facts.equal(desk, desk), false);
         }
         Check.due("the desks that are", facts.equal(0, 1), true);
+    }
+
+    /** Also where the desk that is none would know what the other does: nothing. */
+    private static void falseWhenOneIsNone() {
+        ToldFacts facts = new ToldFacts();
+        Check.due("no desks", facts.equal(0, 0), false);
+        for (int desks = 1; desks <= 8; desks++) {
+            facts.desk();
+            int last = desks - 1;
+            Check.due("the last with itself", facts.equal(last, last), true);
+            Check.due("the last with the first", facts.equal(last, 0), true);
+            int[] none = {Integer.MIN_VALUE, -1, desks, 8, Integer.MAX_VALUE};
+            for (int desk : none) {
+                Check.due("the last with " + desk, facts.equal(last, desk), false);
+                Check.due(desk + " with the last", facts.equal(desk, last), false);
+                Check.due(desk + " with itself", facts.equal(desk, desk), false);
+            }
+        }
+    }
+
+    private static void emptyAndFull() {
+        ToldFacts facts = Check.withDesks(3);
+        Check.due("both empty", facts.equal(0, 1), true);
+        Check.fill(facts, 0, 300);
+        Check.due("one full", facts.equal(0, 1), false);
+        Check.due("the other way", facts.equal(1, 0), false);
+        facts.join(1, 0);
+        Check.due("both full", facts.equal(0, 1), true);
+        Check.due("a third is empty", facts.equal(2, 1), false);
+    }
+
+    private static void changesNothing() {
+        Twins.noEffect("equal", Twins::few, 1, x -> x.equal(0, 0) ? 1 : 0);
+        Twins.noEffect("equal, not so", Twins::few, 0, x -> x.equal(0, 1) ? 1 : 0);
+        Twins.noEffect("equal of none", Twins::few, 0, x -> x.equal(0, 3) ? 1 : 0);
     }
 }

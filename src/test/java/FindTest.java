@@ -5,6 +5,10 @@ public final class FindTest {
         ofTheKindAndValue();
         alsoWhatDoesNotStand();
         nothing();
+        numberFromZero();
+        kindsAndValuesAtTheEnds();
+        emptyAndFull();
+        changesNothing();
         Check.end("FindTest");
     }
 
@@ -67,5 +71,66 @@ public final class FindTest {
         }
         Check.due("kind 11", facts.find(0, 11, 5, 0), Check.NONE);
         Check.due("desk 1 knows none", facts.find(1, 1, 5, 0), Check.NONE);
+    }
+
+    private static void numberFromZero() {
+        ToldFacts facts = Check.withDesks(2);
+        for (int many = 0; many <= 3; many++) {
+            for (int k = 0; k < many; k++) {
+                Check.due("number " + k + " of " + many, facts.find(0, 1, 5, k), 8 * k);
+            }
+            int[] none = {
+                Integer.MIN_VALUE, Integer.MIN_VALUE + 1, -2, -1, many, many + 1, 299, 300, Integer.MAX_VALUE};
+            for (int k : none) {
+                Check.due("number " + k + " of " + many, facts.find(0, 1, 5, k), Check.NONE);
+            }
+            facts.tell(0, many, 1, many, 5);
+        }
+    }
+
+    private static void kindsAndValuesAtTheEnds() {
+        ToldFacts facts = Check.withDesks(8);
+        long[] values = {Long.MIN_VALUE, -1, 0, Long.MAX_VALUE};
+        int[] kinds = {0, 9};
+        for (int i = 0; i < 8; i++) {
+            facts.tell(7, 99, kinds[i % 2], 100_000, values[i / 2]);
+        }
+        int[] noDesks = {Integer.MIN_VALUE, -1, 0, 6, 8, Integer.MAX_VALUE};
+        int[] noKinds = {Integer.MIN_VALUE, -1, 1, 8, 10, 19, Integer.MAX_VALUE};
+        for (int i = 0; i < 8; i++) {
+            Check.due("find", facts.find(7, kinds[i % 2], values[i / 2], 0), 8 * i + 7);
+            Check.due("no second", facts.find(7, kinds[i % 2], values[i / 2], 1), Check.NONE);
+            for (int desk : noDesks) {
+                Check.due("at desk " + desk, facts.find(desk, kinds[i % 2], values[i / 2], 0), Check.NONE);
+            }
+            for (int kind : noKinds) {
+                Check.due("of kind " + kind, facts.find(7, kind, values[i / 2], 0), Check.NONE);
+            }
+        }
+        Check.due("a value that none has", facts.find(7, 0, Long.MIN_VALUE + 1, 0), Check.NONE);
+    }
+
+    private static void emptyAndFull() {
+        ToldFacts facts = Check.withDesks(2);
+        Check.due("nothing was told", facts.find(0, 9, 7, 0), Check.NONE);
+        for (int c = 0; c < 150; c++) {
+            facts.tell(1, 99, 9, c, 7);
+            facts.tell(0, 99, 9, c, 7);
+        }
+        facts.join(1, 0);
+        Check.due("the first", facts.find(1, 9, 7, 0), 0);
+        Check.due("the second", facts.find(1, 9, 7, 1), 1);
+        Check.due("the third", facts.find(1, 9, 7, 2), 8);
+        Check.due("the 300th", facts.find(1, 9, 7, 299), 8 * 149 + 1);
+        Check.due("no 301st", facts.find(1, 9, 7, 300), Check.NONE);
+        Check.due("desk 0 knows 150", facts.find(0, 9, 7, 149), 8 * 149);
+        Check.due("no 151st", facts.find(0, 9, 7, 150), Check.NONE);
+    }
+
+    private static void changesNothing() {
+        Twins.noEffect("find", Twins::few, 16, x -> x.find(0, 1, 60, 0));
+        Twins.noEffect("find of nothing", Twins::few, Check.NONE, x -> x.find(0, 1, 61, 0));
+        Twins.noEffect("find at no desk", Twins::few, Check.NONE, x -> x.find(3, 1, 60, 0));
+        Twins.noEffect("find of no kind", Twins::few, Check.NONE, x -> x.find(0, 10, 60, 0));
     }
 }

@@ -8,6 +8,12 @@ public final class JoinTest {
         bringsNoOpenBatch();
         joinedFactsPassOpenBatch();
         refusals();
+        clockBecomesTheGreater();
+        clockOfAnOpenBatch();
+        emptyDesks();
+        mostSpotsInConflict();
+        whenAllIsFull();
+        refusedChangesNothing();
         Check.end("JoinTest");
     }
 
@@ -117,5 +123,83 @@ public final class JoinTest {
         Check.due("counts(1)", facts.counts(1), 0);
         Check.due("tell", facts.tell(1, 1, 1, 1, 2), 1);
         Check.due("its time is 1", facts.known(1, 1, 1, 1, 1), 2);
+    }
+
+    /** The other one's clock is one less, the same, one more. */
+    private static void clockBecomesTheGreater() {
+        for (int more = -1; more <= 1; more++) {
+            ToldFacts facts = Check.withDesks(2);
+            Check.fill(facts, 0, 4);
+            for (int c = 0; c < 4 + more; c++) {
+                facts.tell(1, 98, 9, c, 7);
+            }
+            Check.due("join(0, 1)", facts.join(0, 1), 0);
+            facts.tell(0, 1, 1, 1, 1);
+            Check.due("the next time", Check.timeOf(facts, 0, 1, 1, 1), Math.max(4, 4 + more) + 1);
+            facts.tell(1, 1, 1, 1, 1);
+            Check.due("the other's clock goes on by itself", Check.timeOf(facts, 1, 1, 1, 1), 4 + more + 1);
+        }
+    }
+
+    private static void clockOfAnOpenBatch() {
+        ToldFacts facts = Check.withDesks(3);
+        facts.batch(0);
+        Check.fill(facts, 0, 3);
+        Check.fill(facts, 1, 5);
+        Check.due("join into the batch's desk", facts.join(0, 1), 0);
+        facts.tell(0, 1, 1, 1, 1);
+        Check.due("join from it", facts.join(2, 0), 0);
+        facts.tell(2, 2, 2, 2, 2);
+        Check.due("time 7 after 6", Check.timeOf(facts, 2, 2, 2, 2), 7);
+        facts.endBatch(0);
+        Check.due("time 6 after 5", Check.timeOf(facts, 0, 1, 1, 1), 6);
+    }
+
+    private static void emptyDesks() {
+        ToldFacts facts = Check.withDesks(3);
+        Check.due("two that know nothing", facts.join(0, 1), 0);
+        Check.due("counts(0)", facts.counts(0), 0);
+        facts.tell(0, 1, 1, 1, 1);
+        facts.tell(0, 1, 1, 1, 2);
+        Check.due("with one that knows nothing: its own conflict", facts.join(0, 1), 1);
+        Check.due("counts(0)", facts.counts(0), 2);
+        Check.due("one that knows nothing", facts.join(1, 0), 1);
+        Check.due("counts(1)", facts.counts(1), 2);
+        Check.due("equal(0, 1)", facts.equal(0, 1), true);
+    }
+
+    private static void mostSpotsInConflict() {
+        ToldFacts facts = Check.withDesks(8);
+        for (int spot = 0; spot < 150; spot++) {
+            facts.tell(0, spot % 100, spot / 100, 100_000, 1);
+            facts.tell(7, spot % 100, spot / 100, 100_000, 2);
+        }
+        Check.due("150 spots", facts.join(7, 0), 150);
+        Check.due("300 facts", facts.counts(7), 300);
+        Check.due("the other as before", facts.counts(0), 150);
+        Check.due("back", facts.join(0, 7), 150);
+        Check.due("again", facts.join(0, 7), 150);
+    }
+
+    private static void whenAllIsFull() {
+        ToldFacts facts = Check.withDesks(2);
+        Check.fill(facts, 0, 300);
+        Check.due("full", facts.tell(1, 1, 1, 1, 1), Check.FULL);
+        Check.due("a join is never FULL", facts.join(1, 0), 0);
+        Check.due("counts(1)", facts.counts(1), 300);
+    }
+
+    private static void refusedChangesNothing() {
+        for (int desk : new int[] {Integer.MIN_VALUE, -1, 3, 8, Integer.MAX_VALUE}) {
+            Twins.noEffect("join(0, " + desk + ")", Twins::few, Check.NONE, x -> x.join(0, desk));
+            Twins.noEffect("join(" + desk + ", 0)", Twins::few, Check.NONE, x -> x.join(desk, 0));
+            Twins.noEffect("join of one none with itself", Twins::few, Check.NONE, x -> x.join(desk, desk));
+        }
+        for (int desk = 0; desk < 3; desk++) {
+            int one = desk;
+            Twins.noEffect("join of one with itself", Twins::few, Check.NONE, x -> x.join(one, one));
+        }
+        Twins.noEffect("join of one with itself when full", Twins::full, Check.NONE, x -> x.join(7, 7));
+        Twins.noEffect("join with desk 8 when full", Twins::full, Check.NONE, x -> x.join(7, 8));
     }
 }

@@ -10,7 +10,8 @@ import java.util.regex.Pattern;
 public final class LanguageTest {
     private static final Path SOURCE = Path.of("src/main/java/ToldFacts.java");
     private static final String[] BARRED = {
-        "\\bthrow\\b", "\\bthrows\\b", "\\btry\\b", "\\bcatch\\b", "\\bfinally\\b", "\\bsynchronized\\b", "\\bassert\\b",
+        "\\bthrow\\b", "\\bthrows\\b", "\\btry\\b", "\\bcatch\\b", "\\bfinally\\b", "\\bsynchronized\\b",
+        "\\bassert\\b",
         "\\bimport\\b", "\\bpackage\\b", "\\bprotected\\b", "->", "::", "\\bvar\\b", "\\bObject\\b", "\\bSystem\\b",
         "\\bequals\\b", "\\bhashCode\\b", "\\btoString\\b", "Exact\\b", "\\bnative\\b", "\\bvolatile\\b",
         "\\bstatic\\s*\\{", "\"", "'"};

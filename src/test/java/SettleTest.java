@@ -9,6 +9,13 @@ public final class SettleTest {
         inABatch();
         settledAtTwoDesks();
         full();
+        theLeastDayInConflict();
+        whichFromZero();
+        noSuchSpot();
+        deskEdges();
+        valuesAtTheEnds();
+        refusedChangesNothing();
+        fullChangesNothing();
         Check.end("SettleTest");
     }
 
@@ -147,5 +154,121 @@ public final class SettleTest {
         Check.due("full: no fact comes before it", facts.settle(0, 1, 2, 2), Check.NONE);
         Check.due("full: no spot comes before it", facts.settle(0, 1, 1, 0), Check.NONE);
         Check.due("full: no desk comes before it", facts.settle(1, 1, 2, 0), Check.NONE);
+    }
+
+    /** Days 0 and 100,000 among them; a lesser day where all say the same is in no conflict. */
+    private static void theLeastDayInConflict() {
+        ToldFacts facts = Check.withDesks(1);
+        facts.tell(0, 1, 1, 100_000, 1);
+        facts.tell(0, 1, 1, 100_000, 2);
+        facts.tell(0, 1, 1, 50_000, 1);
+        facts.tell(0, 1, 1, 50_000, 1);
+        facts.tell(0, 1, 1, 99_999, 3);
+        facts.tell(0, 1, 1, 0, 4);
+        facts.tell(0, 1, 1, 0, 5);
+        Check.due("day 0", facts.settle(0, 1, 1, 0), 56);
+        Check.due("says 4", facts.known(0, 1, 1, 0, 99), 4);
+        Check.due("the last day is left", facts.conflict(0, 0, 2), 100_000);
+        Check.due("day 100,000", facts.settle(0, 1, 1, 1), 64);
+        Check.due("says 2", facts.known(0, 1, 1, 100_000, 99), 2);
+        Check.due("no day is left", facts.settle(0, 1, 1, 0), Check.NONE);
+        Check.due("day 50,000 as before", facts.correct(0, 16, 9), 72);
+        Check.due("now in conflict", facts.settle(0, 1, 1, 0), 80);
+        Check.due("says 1, by number 24", facts.known(0, 1, 1, 50_000, 99), 1);
+    }
+
+    private static void whichFromZero() {
+        int[] none = {Integer.MIN_VALUE, Integer.MIN_VALUE + 1, -2, -1, 3, 4, 299, 300, Integer.MAX_VALUE};
+        for (int which = 0; which < 3; which++) {
+            ToldFacts facts = Check.withDesks(1);
+            for (int v = 0; v < 3; v++) {
+                facts.tell(0, 1, 1, 1, 100 + v);
+            }
+            for (int wrong : none) {
+                Check.due("which = " + wrong, facts.settle(0, 1, 1, wrong), Check.NONE);
+            }
+            Check.due("which = " + which, facts.settle(0, 1, 1, which), 24);
+            Check.due("its value", facts.known(0, 1, 1, 1, 4), 100 + which);
+        }
+        ToldFacts facts = Check.withDesks(1);
+        for (int c = 0; c < 299; c++) {
+            facts.tell(0, 1, 1, 1, c);
+        }
+        Check.due("which = 299 of 299", facts.settle(0, 1, 1, 299), Check.NONE);
+        Check.due("which = 298 of 299", facts.settle(0, 1, 1, 298), 8 * 299);
+        Check.due("its value", facts.known(0, 1, 1, 1, 300), 298);
+        Check.due("none is in conflict", facts.conflict(0, 0, 0), Check.NONE);
+    }
+
+    private static void noSuchSpot() {
+        ToldFacts facts = Check.withDesks(2);
+        Check.due("nothing was told", facts.settle(0, 0, 0, 0), Check.NONE);
+        facts.tell(0, 1, 1, 1, 1);
+        Check.due("one fact", facts.settle(0, 1, 1, 0), Check.NONE);
+        facts.tell(0, 1, 1, 1, 1);
+        Check.due("two that say the same", facts.settle(0, 1, 1, 0), Check.NONE);
+        facts.tell(0, 1, 1, 2, 2);
+        Check.due("another value of another day", facts.settle(0, 1, 1, 0), Check.NONE);
+        facts.tell(1, 1, 1, 1, 3);
+        Check.due("another value at another desk", facts.settle(0, 1, 1, 0), Check.NONE);
+        facts.join(0, 1);
+        int[] things = {Integer.MIN_VALUE, -1, 0, 2, 99, 100, Integer.MAX_VALUE};
+        for (int thing : things) {
+            Check.due("thing " + thing, facts.settle(0, thing, 1, 0), Check.NONE);
+        }
+        int[] kinds = {Integer.MIN_VALUE, -9, -1, 0, 2, 9, 10, 11, Integer.MAX_VALUE};
+        for (int kind : kinds) {
+            Check.due("kind " + kind, facts.settle(0, 1, kind, 0), Check.NONE);
+        }
+        Check.due("thing 0, kind 11", facts.settle(0, 0, 11, 0), Check.NONE);
+        Check.due("thing 2, kind -9", facts.settle(0, 2, -9, 0), Check.NONE);
+        Check.due("thing 1, kind 1", facts.settle(0, 1, 1, 0), 24);
+    }
+
+    private static void deskEdges() {
+        ToldFacts facts = Check.withDesks(8);
+        facts.tell(7, 1, 1, 1, 1);
+        facts.tell(7, 1, 1, 1, 2);
+        int[] none = {Integer.MIN_VALUE, -1, 0, 6, 8, Integer.MAX_VALUE};
+        for (int desk : none) {
+            Check.due("at desk " + desk, facts.settle(desk, 1, 1, 0), Check.NONE);
+        }
+        Check.due("at desk 7", facts.settle(7, 1, 1, 0), 23);
+        Check.due("at time 3", facts.known(7, 1, 1, 1, 3), 1);
+        Check.due("at time 2", facts.known(7, 1, 1, 1, 2), 2);
+    }
+
+    private static void valuesAtTheEnds() {
+        long[] ends = {Long.MIN_VALUE, Long.MAX_VALUE};
+        for (int which = 0; which < 2; which++) {
+            ToldFacts facts = Check.withDesks(1);
+            facts.tell(0, 1, 1, 1, ends[0]);
+            facts.tell(0, 1, 1, 1, ends[1]);
+            Check.due("settle", facts.settle(0, 1, 1, which), 16);
+            Check.due("known", facts.known(0, 1, 1, 1, 3), ends[which]);
+        }
+    }
+
+    private static void refusedChangesNothing() {
+        for (int desk : new int[] {Integer.MIN_VALUE, -1, 3, 8, Integer.MAX_VALUE}) {
+            Twins.noEffect("settle at desk " + desk, Twins::few, Check.NONE, x -> x.settle(desk, 1, 1, 0));
+        }
+        for (int thing : new int[] {Integer.MIN_VALUE, -1, 0, 2, 100, Integer.MAX_VALUE}) {
+            Twins.noEffect("settle of thing " + thing, Twins::few, Check.NONE, x -> x.settle(0, thing, 1, 0));
+        }
+        for (int kind : new int[] {Integer.MIN_VALUE, -1, 0, 2, 10, Integer.MAX_VALUE}) {
+            Twins.noEffect("settle of kind " + kind, Twins::few, Check.NONE, x -> x.settle(0, 1, kind, 0));
+        }
+        for (int which : new int[] {Integer.MIN_VALUE, -1, 2, Integer.MAX_VALUE}) {
+            Twins.noEffect("settle with fact " + which, Twins::few, Check.NONE, x -> x.settle(0, 1, 1, which));
+        }
+    }
+
+    private static void fullChangesNothing() {
+        Twins.noEffect("settle when full", Twins::full, Check.FULL, x -> x.settle(0, 1, 1, 0));
+        Twins.noEffect("settle in a batch when full", Twins::full, Check.FULL, x -> x.settle(1, 1, 1, 0));
+        Twins.noEffect("settle of no spot when full", Twins::full, Check.NONE, x -> x.settle(0, 9, 9, 0));
+        Twins.noEffect("settle with no fact when full", Twins::full, Check.NONE, x -> x.settle(0, 1, 1, 300));
+        Twins.noEffect("settle at no desk when full", Twins::full, Check.NONE, x -> x.settle(8, 1, 1, 0));
     }
 }

@@ -9,6 +9,8 @@ public final class TellTest {
         theLastNumber();
         fullCountsFactsOfABatch();
         noneComesBeforeFull();
+        refusedChangesNothing();
+        fullChangesNothing();
         Check.end("TellTest");
     }
 
@@ -121,5 +123,29 @@ public final class TellTest {
         Check.due("no thing", facts.tell(0, 100, 0, 0, 0), Check.NONE);
         Check.due("no kind", facts.tell(0, 0, 10, 0, 0), Check.NONE);
         Check.due("no day", facts.tell(0, 0, 0, 100_001, 0), Check.NONE);
+    }
+
+    private static void refusedChangesNothing() {
+        for (int desk : new int[] {Integer.MIN_VALUE, -1, 3, 8, Integer.MAX_VALUE}) {
+            Twins.noEffect("tell at desk " + desk, Twins::few, Check.NONE, x -> x.tell(desk, 1, 1, 5, 1));
+        }
+        for (int thing : new int[] {Integer.MIN_VALUE, -1, 100, Integer.MAX_VALUE}) {
+            Twins.noEffect("tell of thing " + thing, Twins::few, Check.NONE, x -> x.tell(0, thing, 1, 5, 1));
+        }
+        for (int kind : new int[] {Integer.MIN_VALUE, -1, 10, Integer.MAX_VALUE}) {
+            Twins.noEffect("tell of kind " + kind, Twins::few, Check.NONE, x -> x.tell(0, 1, kind, 5, 1));
+        }
+        for (long day : new long[] {Long.MIN_VALUE, -1, 100_001, (1L << 32) + 5, Long.MAX_VALUE}) {
+            Twins.noEffect("tell of day " + day, Twins::few, Check.NONE, x -> x.tell(0, 1, 1, day, 1));
+        }
+        Twins.noEffect("tell, refused, in a batch", Twins::few, Check.NONE, x -> x.tell(1, 100, 1, 5, 1));
+    }
+
+    private static void fullChangesNothing() {
+        for (int desk = 0; desk < 8; desk++) {
+            int at = desk;
+            Twins.noEffect("tell at desk " + at + " when full", Twins::full, Check.FULL, x -> x.tell(at, 1, 1, 1, 1));
+        }
+        Twins.noEffect("tell at desk 8 when full", Twins::full, Check.NONE, x -> x.tell(8, 1, 1, 1, 1));
     }
 }
