@@ -5,7 +5,7 @@ import java.util.Arrays;
 import java.util.Set;
 import java.util.TreeSet;
 
-/** The public face of the document, and rules 1 and 5 of LANGUAGE.md. */
+/** The public face of the document, and rules 1, 5 and, in part, 11 of LANGUAGE.md. */
 public final class FaceTest {
     private static final String[] FACE = {
         "int desk()", "int tell(int, int, int, long, long)", "int correct(int, int, long)", "int join(int, int)",
@@ -21,7 +21,10 @@ public final class FaceTest {
                 && type.getConstructors()[0].getParameterCount() == 0, true);
         methods(type);
         fields(type);
+        Check.due("few classes", type.getDeclaredClasses().length < 12, true);
+        fewFields(type);
         for (Class<?> inside : type.getDeclaredClasses()) {
+            fewFields(inside);
             int modifiers = inside.getModifiers();
             Check.due(inside.getName() + " is static", Modifier.isStatic(modifiers), true);
             Check.due(inside.getName() + " is inside alone",
@@ -73,6 +76,14 @@ public final class FaceTest {
             }
         }
         Check.due("the constants " + open, open.equals(Set.of("NONE", "FULL")), true);
+    }
+
+    private static void fewFields(Class<?> type) {
+        int fields = 0;
+        for (Field field : type.getDeclaredFields()) {
+            fields += Modifier.isStatic(field.getModifiers()) ? 0 : 1;
+        }
+        Check.due(type + " has few fields", fields <= 20, true);
     }
 
     private static void staticFieldsAreConstants(Class<?> type) {
