@@ -58,13 +58,8 @@ public final class ToldFacts {
     }
 
     public int join(int desk, int other) {
-        Desk at = deskAt(desk);
-        Desk from = deskAt(other);
-        if (at == null || from == null || desk == other) {
-            return NONE;
-        }
-        at.learnFrom(from);
-        return facts.countConflicts(at.knows);
+        Desk at = joined(desk, other);
+        return at == null ? NONE : facts.countConflicts(at.knows);
     }
 
     public long known(int desk, int thing, int kind, long day, long on) {
@@ -188,6 +183,17 @@ public final class ToldFacts {
         return fact == NONE ? NONE : facts.numbers[fact];
     }
 
+    /** The desk that now knows what the other does, or null, and nothing changes, when that is refused. */
+    private Desk joined(int desk, int other) {
+        Desk at = deskAt(desk);
+        Desk from = deskAt(other);
+        if (at == null || from == null || desk == other) {
+            return null;
+        }
+        at.learnFrom(from);
+        return at;
+    }
+
     private int tellReplacing(Desk at, int spot, long value, FactSet replaced) {
         int number = at.nextNumber();
         int fact = facts.append(number, spot, value, at.nextTime(), replaced);
@@ -208,13 +214,8 @@ public final class ToldFacts {
             int value = draw.below(5);
             tell(desk, thing, kind, day, value);
         } else {
-            int other = draw.below(deskCount);
-            Desk at = deskAt(desk);
-            Desk from = deskAt(other);
             // Not join(): nobody asks for the conflicts here, and counting them is its dear part.
-            if (at != null && from != null && desk != other) {
-                at.learnFrom(from);
-            }
+            joined(desk, draw.below(deskCount));
         }
     }
 

@@ -1,3 +1,4 @@
+import java.io.IOException;
 import java.lang.reflect.Field;
 import java.lang.reflect.Method;
 import java.lang.reflect.Modifier;
@@ -13,7 +14,7 @@ public final class FaceTest {
         "boolean equal(int, int)", "int batch(int)", "boolean endBatch(int)", "int play(long, int)",
         "int find(int, int, long, int)", "int counts(int)"};
 
-    public static void main(String[] args) {
+    public static void main(String[] args) throws IOException, IllegalAccessException {
         Class<?> type = ToldFacts.class;
         Check.due("public final", type.getModifiers() == (Modifier.PUBLIC | Modifier.FINAL), true);
         Check.due("one constructor", type.getDeclaredConstructors().length, 1);
@@ -32,7 +33,22 @@ public final class FaceTest {
             staticFieldsAreConstants(inside);
         }
         staticFieldsAreConstants(type);
+        asTheDocumentHasIt();
         Check.end("FaceTest");
+    }
+
+    /** Read from the document itself: the constants with their values, the constructor, the methods. */
+    private static void asTheDocumentHasIt() throws IOException, IllegalAccessException {
+        Set<String> due = new TreeSet<>();
+        for (String member : Pages.face()) {
+            due.add(member.replaceAll("(int|long) \\w+(?=[,)])", "$1"));
+        }
+        Set<String> open = new TreeSet<>(Arrays.asList(FACE));
+        open.add("ToldFacts()");
+        for (Field field : ToldFacts.class.getFields()) {
+            open.add(field.getType() + " " + field.getName() + " = " + field.get(null));
+        }
+        Check.due("the face " + open + " of the document " + due, open.equals(due), true);
     }
 
     private static void methods(Class<?> type) {

@@ -21,6 +21,10 @@ public final class TermsTest {
         aClockIs0AtFirst();
         aFactMovesTheClockByOne();
         factsOfABatchAreKnownFromItsEndOn();
+        aDeskKnowsWhatWasToldThereAndWhatCame();
+        aFactReplacesFactsOfItsSpot();
+        aFactStandsWhenNoneReplacesIt();
+        aSpotIsInConflictByWhatStands();
         Check.end("TermsTest");
     }
 
@@ -249,5 +253,91 @@ public final class TermsTest {
             Check.due("settle", facts.settle(0, 1, 1, 0), isOver ? 24 : Check.NONE);
             Check.due("the end", facts.endBatch(0), !isOver);
         }
+    }
+
+    /** By tell, correct, settle and play; what another desk is told afterwards does not come by an old join. */
+    private static void aDeskKnowsWhatWasToldThereAndWhatCame() {
+        ToldFacts facts = Check.withDesks(2);
+        facts.tell(0, 1, 1, 1, 1);
+        Check.due("told", facts.counts(0), 1);
+        facts.correct(0, 0, 2);
+        Check.due("corrected", facts.counts(0), 2);
+        facts.tell(0, 1, 1, 1, 3);
+        facts.settle(0, 1, 1, 0);
+        Check.due("settled", facts.counts(0), 4);
+        Check.due("the other desk knows none of them", facts.counts(1), 0);
+        facts.join(1, 0);
+        Check.due("they came by joining", facts.counts(1), 4);
+        facts.tell(0, 1, 1, 1, 4);
+        Check.due("one told afterwards did not come", facts.counts(1), 4);
+        Check.due("nor can it be corrected there", facts.correct(1, 32, 5), Check.NONE);
+        ToldFacts played = Check.withDesks(1);
+        Check.due("played, seed 0: one is told", played.play(0, 1), 1);
+        Check.due("and known", played.counts(0), 1);
+    }
+
+    /** Thing, kind and day of a correction and of a settlement are those of what they replace, and no others'. */
+    private static void aFactReplacesFactsOfItsSpot() {
+        int[][] spots = {{0, 0, 0}, {7, 3, 12_345}, {99, 9, 100_000}};
+        for (int[] spot : spots) {
+            ToldFacts facts = Check.withDesks(1);
+            facts.tell(0, spot[0], spot[1], spot[2], 1);
+            facts.tell(0, 50, 5, 50, 9);
+            facts.correct(0, 0, 2);
+            facts.tell(0, spot[0], spot[1], spot[2], 3);
+            for (int what = 0; what < 3; what++) {
+                Check.due("the correction's spot", facts.conflict(0, 0, what), spot[what]);
+            }
+            Check.due("settle", facts.settle(0, spot[0], spot[1], 0), 32);
+            facts.tell(0, spot[0], spot[1], spot[2], 4);
+            for (int what = 0; what < 3; what++) {
+                Check.due("the settlement's spot", facts.conflict(0, 0, what), spot[what]);
+            }
+            Check.due("it and the new one stand", facts.conflict(0, 0, 3), 2);
+            Check.due("the first of them", facts.conflict(0, 0, 4), 32);
+            Check.due("one of another spot stands as before", facts.correct(0, 8, 8), 48);
+        }
+    }
+
+    /** Also one whose replacer is replaced itself: it does not stand again. */
+    private static void aFactStandsWhenNoneReplacesIt() {
+        ToldFacts facts = Check.withDesks(2);
+        facts.tell(0, 1, 1, 1, 1);
+        facts.join(1, 0);
+        facts.correct(0, 0, 2);
+        facts.correct(0, 8, 3);
+        Check.due("replaced by one that is replaced", facts.correct(0, 0, 9), Check.NONE);
+        Check.due("replaced by one that stands", facts.correct(0, 8, 9), Check.NONE);
+        Check.due("no two stand", facts.conflict(0, 0, 3), Check.NONE);
+        long[] due = {Check.NOTHING, 1, 2, 3, 3};
+        for (int on = 0; on < due.length; on++) {
+            Check.due("of those told by " + on, facts.known(0, 1, 1, 1, on), due[on]);
+        }
+        Check.due("at desk 1 none replaces it", facts.known(1, 1, 1, 1, 9), 1);
+        Check.due("so it stands there", facts.correct(1, 0, 4), 1);
+        Check.due("two replace it: both stand", facts.join(1, 0), 1);
+        Check.due("the first", facts.conflict(1, 0, 4), 1);
+        Check.due("the second", facts.conflict(1, 0, 5), 16);
+        Check.due("no third", facts.conflict(1, 0, 6), Check.NONE);
+    }
+
+    private static void aSpotIsInConflictByWhatStands() {
+        ToldFacts facts = Check.withDesks(2);
+        facts.tell(0, 1, 1, 1, 1);
+        Check.due("one value", facts.conflict(0, 0, 0), Check.NONE);
+        facts.correct(0, 0, 2);
+        Check.due("two values, of which one stands", facts.conflict(0, 0, 0), Check.NONE);
+        facts.tell(0, 1, 1, 1, 2);
+        Check.due("two stand with one value", facts.conflict(0, 0, 0), Check.NONE);
+        facts.tell(0, 1, 1, 1, 1);
+        Check.due("different values stand", facts.conflict(0, 0, 0), 1);
+        Check.due("of all that stands there, three", facts.conflict(0, 0, 3), 3);
+        Check.due("not at a desk that knows none of it", facts.conflict(1, 0, 0), Check.NONE);
+        facts.correct(0, 24, 2);
+        Check.due("again one value", facts.conflict(0, 0, 0), Check.NONE);
+        facts.tell(0, 1, 1, 2, 3);
+        facts.tell(0, 1, 2, 1, 3);
+        facts.tell(0, 2, 1, 1, 3);
+        Check.due("values of other spots are none of its own", facts.conflict(0, 0, 0), Check.NONE);
     }
 }
